@@ -53,7 +53,7 @@ final class Model {
         return b == -1 && c != -1;
     }
 
-    private static List<Integer> topics(int a, int b, int c) {
+    static List<Integer> topics(int a, int b, int c) {
         List<Integer> topics = new ArrayList<>();
         for (int topic : new int[] {a, b, c}) {
             if (topic != -1) {
@@ -232,7 +232,7 @@ final class Model {
         return blocks.get(block).events.get(i).value();
     }
 
-    private static long leaf(int account, List<Integer> topics, long value, int place) {
+    static long leaf(int account, List<Integer> topics, long value, int place) {
         long d = mix(account, value);
         for (int topic : topics) {
             d = mix(d, topic);
@@ -256,11 +256,11 @@ final class Model {
         return above;
     }
 
-    private static long top(List<Long> row) {
+    static long top(List<Long> row) {
         return row.isEmpty() ? 0 : row.size() == 1 ? row.get(0) : top(above(row));
     }
 
-    private static List<Long> path(List<Long> row, int i) {
+    static List<Long> path(List<Long> row, int i) {
         List<Long> path = new ArrayList<>();
         if (row.size() > 1) {
             int beside = i % 2 == 0 ? i + 1 : i - 1;
