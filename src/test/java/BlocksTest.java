@@ -238,13 +238,13 @@ public final class BlocksTest {
         DUE.is("prune(0), also in a call", y.prune(0), 1);
         DUE.is("prune(39), the last one", y.prune(39), 1);
         DUE.is("size(38, 1), others are kept", y.size(38, 1), 1);
-        DUE.changesNothing(States::rich, "prune(2), it was", x -> x.prune(2));
+        DUE.changesNothing(States::inCalls, "prune(2), it was", x -> x.prune(2));
     }
 
     private static void pruneRefuses() {
         DUE.sentence("promise 8", "BAD.");
         for (int block : NO_BLOCKS) {
-            DUE.refuses(States::rich, "prune(" + block + "), 4 are there", BAD, x -> x.prune(block));
+            DUE.refuses(States::inCalls, "prune(" + block + "), 4 are there", BAD, x -> x.prune(block));
         }
         DUE.refuses(States::fresh, "prune(0), none is there", BAD, x -> x.prune(0));
         DUE.refuses(States::fortyBlocks, "prune(40), 40 are there", BAD, x -> x.prune(40));
@@ -298,13 +298,13 @@ public final class BlocksTest {
     private static void sizeRefuses() {
         DUE.sentence("promise 9", "BAD.");
         for (int block : NO_BLOCKS) {
-            DUE.refuses(States::rich, "size(" + block + ", 0)", BAD, x -> x.size(block, 0));
-            DUE.refuses(States::rich, "size(" + block + ", 1)", BAD, x -> x.size(block, 1));
+            DUE.refuses(States::inCalls, "size(" + block + ", 0)", BAD, x -> x.size(block, 0));
+            DUE.refuses(States::inCalls, "size(" + block + ", 1)", BAD, x -> x.size(block, 1));
         }
         for (int what : new int[] {-1, 2, MIN, MAX}) {
-            DUE.refuses(States::rich, "size(0, " + what + ")", BAD, x -> x.size(0, what));
-            DUE.refuses(States::rich, "size(2, " + what + "), pruned", BAD, x -> x.size(2, what));
-            DUE.refuses(States::rich, "size(4, " + what + ")", BAD, x -> x.size(4, what));
+            DUE.refuses(States::inCalls, "size(0, " + what + ")", BAD, x -> x.size(0, what));
+            DUE.refuses(States::inCalls, "size(2, " + what + "), pruned", BAD, x -> x.size(2, what));
+            DUE.refuses(States::inCalls, "size(4, " + what + ")", BAD, x -> x.size(4, what));
         }
         DUE.refuses(States::fresh, "size(0, 0), none is there", BAD, x -> x.size(0, 0));
     }
@@ -344,21 +344,21 @@ public final class BlocksTest {
                 DUE.is("event(0, " + i + ", " + (2 + k) + ")", x.event(0, i, 2 + k), due[i][k]);
             }
         }
-        DUE.changesNothing(States::rich, "event(0, 0, 4)", y -> y.event(0, 0, 4));
+        DUE.changesNothing(States::inCalls, "event(0, 0, 4)", y -> y.event(0, 0, 4));
     }
 
     private static void eventRefuses() {
         DUE.sentence("promise 10", "BAD; GONE.");
         for (int block : NO_BLOCKS) {
-            DUE.refuses(States::rich, "event(" + block + ", 0, 0)", BAD, x -> x.event(block, 0, 0));
+            DUE.refuses(States::inCalls, "event(" + block + ", 0, 0)", BAD, x -> x.event(block, 0, 0));
         }
         for (int i : new int[] {-1, 3, 31, 32, MIN, MAX}) {
-            DUE.refuses(States::rich, "event(0, " + i + ", 0)", BAD, x -> x.event(0, i, 0));
+            DUE.refuses(States::inCalls, "event(0, " + i + ", 0)", BAD, x -> x.event(0, i, 0));
         }
         for (int what : new int[] {-1, 6, MIN, MAX}) {
-            DUE.refuses(States::rich, "event(0, 0, " + what + ")", BAD, x -> x.event(0, 0, what));
+            DUE.refuses(States::inCalls, "event(0, 0, " + what + ")", BAD, x -> x.event(0, 0, what));
         }
-        DUE.refuses(States::rich, "event(1, 0, 0) of an empty block", BAD, x -> x.event(1, 0, 0));
+        DUE.refuses(States::inCalls, "event(1, 0, 0) of an empty block", BAD, x -> x.event(1, 0, 0));
         Rows y = Sample.ofBlock(32);
         DUE.is("event(0, 31, 0) of a full block", y.event(0, 31, 0), Sample.account(31));
         DUE.is("event(0, 32, 0) of a full block", y.event(0, 32, 0), BAD);
@@ -370,7 +370,7 @@ public final class BlocksTest {
             for (int what = 0; what <= 5; what++) {
                 int number = i;
                 int asked = what;
-                DUE.refuses(States::rich, "event(2, " + i + ", " + what + ")", GONE, x -> x.event(2, number, asked));
+                DUE.refuses(States::inCalls, "event(2, " + i + ", " + what + ")", GONE, x -> x.event(2, number, asked));
             }
         }
     }
@@ -392,18 +392,18 @@ public final class BlocksTest {
         DUE.sentence("promise 11", "NullPointer: it is not KEPT");
         for (int i = 0; i < 2; i++) {
             int number = i;
-            DUE.refuses(States::rich, "value(2, " + i + ") when pruned", NULL, x -> x.value(2, number));
+            DUE.refuses(States::inCalls, "value(2, " + i + ") when pruned", NULL, x -> x.value(2, number));
         }
     }
 
     private static void valueNoneSuch() {
         DUE.sentence("promise 11", "ArrayIndexOutOfBounds: there is none such.");
         for (int i : new int[] {-1, 3, 31, 32, MIN, MAX}) {
-            DUE.refuses(States::rich, "value(0, " + i + ")", INDEX, x -> x.value(0, i));
+            DUE.refuses(States::inCalls, "value(0, " + i + ")", INDEX, x -> x.value(0, i));
         }
-        DUE.refuses(States::rich, "value(1, 0) of an empty block", INDEX, x -> x.value(1, 0));
+        DUE.refuses(States::inCalls, "value(1, 0) of an empty block", INDEX, x -> x.value(1, 0));
         for (int block : NO_BLOCKS) {
-            DUE.refuses(States::rich, "value(" + block + ", 0)", INDEX, x -> x.value(block, 0));
+            DUE.refuses(States::inCalls, "value(" + block + ", 0)", INDEX, x -> x.value(block, 0));
         }
         Rows y = Sample.ofBlock(32);
         DUE.isThrown("value(0, 32) of a full block", INDEX, () -> y.value(0, 32));
@@ -412,8 +412,8 @@ public final class BlocksTest {
     private static void valueFirstOfAllTheBlock() {
         DUE.sentence("promise 11", "(First of all: no such BLOCK; then: not KEPT; then: no such EVENT.)");
         for (int i : new int[] {-1, 2, 32, MIN, MAX}) {
-            DUE.refuses(States::rich, "value(2, " + i + ") when pruned", NULL, x -> x.value(2, i));
-            DUE.refuses(States::rich, "value(4, " + i + ") without such a block", INDEX, x -> x.value(4, i));
+            DUE.refuses(States::inCalls, "value(2, " + i + ") when pruned", NULL, x -> x.value(2, i));
+            DUE.refuses(States::inCalls, "value(4, " + i + ") without such a block", INDEX, x -> x.value(4, i));
         }
         Rows y = new Rows();
         y.close();
@@ -443,7 +443,7 @@ public final class BlocksTest {
     private static void rootRefuses() {
         DUE.sentence("promise 12", "ArrayIndexOutOfBounds: there is no such BLOCK.");
         for (int block : NO_BLOCKS) {
-            DUE.refuses(States::rich, "root(" + block + ")", INDEX, x -> x.root(block));
+            DUE.refuses(States::inCalls, "root(" + block + ")", INDEX, x -> x.root(block));
         }
         DUE.refuses(States::fresh, "root(0), none is there", INDEX, x -> x.root(0));
         DUE.refuses(States::fortyBlocks, "root(40), 40 are there", INDEX, x -> x.root(40));
@@ -467,7 +467,7 @@ public final class BlocksTest {
     private static void filterRefuses() {
         DUE.sentence("promise 13", "Likewise.");
         for (int block : NO_BLOCKS) {
-            DUE.refuses(States::rich, "filter(" + block + ")", INDEX, x -> x.filter(block));
+            DUE.refuses(States::inCalls, "filter(" + block + ")", INDEX, x -> x.filter(block));
         }
         DUE.refuses(States::fresh, "filter(0), none is there", INDEX, x -> x.filter(0));
         DUE.refuses(States::fortyBlocks, "filter(40), 40 are there", INDEX, x -> x.filter(40));
@@ -538,11 +538,11 @@ public final class BlocksTest {
     private static void mayRefuses() {
         DUE.sentence("promise 14", "BAD.");
         for (int block : NO_BLOCKS) {
-            DUE.refuses(States::rich, "may(" + block + ", 0)", BAD, x -> x.may(block, 0));
+            DUE.refuses(States::inCalls, "may(" + block + ", 0)", BAD, x -> x.may(block, 0));
         }
         for (int topic : new int[] {-1, 1000, -2, MIN, MAX}) {
-            DUE.refuses(States::rich, "may(0, " + topic + ")", BAD, x -> x.may(0, topic));
-            DUE.refuses(States::rich, "may(2, " + topic + ") when pruned", BAD, x -> x.may(2, topic));
+            DUE.refuses(States::inCalls, "may(0, " + topic + ")", BAD, x -> x.may(0, topic));
+            DUE.refuses(States::inCalls, "may(2, " + topic + ") when pruned", BAD, x -> x.may(2, topic));
         }
         DUE.refuses(States::fresh, "may(0, 0), none is there", BAD, x -> x.may(0, 0));
     }
@@ -580,38 +580,38 @@ public final class BlocksTest {
         DUE.is("find(0, 2, 2), the last one", x.find(0, 2, 2), 2);
         DUE.is("find(0, 2, 3), behind it", x.find(0, 2, 3), NONE);
         for (int i : new int[] {-1, -2, MIN}) {
-            DUE.refuses(States::rich, "find(0, 0, " + i + ")", BAD, y -> y.find(0, 0, i));
-            DUE.refuses(States::rich, "find(1, 0, " + i + ") in an empty block", BAD, y -> y.find(1, 0, i));
+            DUE.refuses(States::inCalls, "find(0, 0, " + i + ")", BAD, y -> y.find(0, 0, i));
+            DUE.refuses(States::inCalls, "find(1, 0, " + i + ") in an empty block", BAD, y -> y.find(1, 0, i));
         }
     }
 
     private static void findNone() {
         DUE.sentence("promise 15", "NONE.");
         Rows x = new Rows();
-        States.rich(x);
+        States.inCalls(x);
         DUE.is("find(1, 0, 0), an empty block", x.find(1, 0, 0), NONE);
         DUE.is("find(0, 9, 0), no such topic in it", x.find(0, 9, 0), NONE);
         DUE.is("find(3, 101, 0), only another block has it", x.find(3, 101, 0), NONE);
         DUE.is("find(0, 101, 0)", x.find(0, 101, 0), 1);
         DUE.is("find(0, 999, 0)", x.find(0, 999, 0), NONE);
-        DUE.changesNothing(States::rich, "find(0, 9, 0)", y -> y.find(0, 9, 0));
+        DUE.changesNothing(States::inCalls, "find(0, 9, 0)", y -> y.find(0, 9, 0));
     }
 
     private static void findRefuses() {
         DUE.sentence("promise 15", "BAD; GONE.");
         for (int block : NO_BLOCKS) {
-            DUE.refuses(States::rich, "find(" + block + ", 0, 0)", BAD, x -> x.find(block, 0, 0));
+            DUE.refuses(States::inCalls, "find(" + block + ", 0, 0)", BAD, x -> x.find(block, 0, 0));
         }
         for (int topic : new int[] {-1, 1000, -2, MIN, MAX}) {
-            DUE.refuses(States::rich, "find(0, " + topic + ", 0)", BAD, x -> x.find(0, topic, 0));
+            DUE.refuses(States::inCalls, "find(0, " + topic + ", 0)", BAD, x -> x.find(0, topic, 0));
         }
     }
 
     private static void findIsGone() {
         DUE.sentence("promise 15 with Terms, REFUSALS", "GONE (EVENTS that are not KEPT)");
         for (int i : new int[] {0, 1, 2, 32, MAX}) {
-            DUE.refuses(States::rich, "find(2, 0, " + i + ") when pruned", GONE, x -> x.find(2, 0, i));
-            DUE.refuses(States::rich, "find(2, 9, " + i + ") when pruned", GONE, x -> x.find(2, 9, i));
+            DUE.refuses(States::inCalls, "find(2, 0, " + i + ") when pruned", GONE, x -> x.find(2, 0, i));
+            DUE.refuses(States::inCalls, "find(2, 9, " + i + ") when pruned", GONE, x -> x.find(2, 9, i));
         }
         Rows y = new Rows();
         y.close();

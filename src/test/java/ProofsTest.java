@@ -72,12 +72,12 @@ public final class ProofsTest {
     private static void pathRefuses() {
         DUE.sentence("promise 16", "BAD; GONE.");
         for (int block : NO_BLOCKS) {
-            DUE.refuses(States::rich, "path(" + block + ", 0)", BAD, x -> x.path(block, 0));
+            DUE.refuses(States::inCalls, "path(" + block + ", 0)", BAD, x -> x.path(block, 0));
         }
         for (int i : new int[] {-1, 3, 31, 32, MIN, MAX}) {
-            DUE.refuses(States::rich, "path(0, " + i + ")", BAD, x -> x.path(0, i));
+            DUE.refuses(States::inCalls, "path(0, " + i + ")", BAD, x -> x.path(0, i));
         }
-        DUE.refuses(States::rich, "path(1, 0) of an empty block", BAD, x -> x.path(1, 0));
+        DUE.refuses(States::inCalls, "path(1, 0) of an empty block", BAD, x -> x.path(1, 0));
         DUE.refuses(States::fresh, "path(0, 0), none is there", BAD, x -> x.path(0, 0));
         DUE.refuses(States::fiveInOut, "path(0, 3), OUT is full", BAD, x -> x.path(0, 3));
         Rows y = Sample.ofBlock(32);
@@ -88,7 +88,7 @@ public final class ProofsTest {
         DUE.sentence("promise 16 with Terms, REFUSALS", "GONE (EVENTS that are not KEPT)");
         for (int i = 0; i < 2; i++) {
             int number = i;
-            DUE.refuses(States::rich, "path(2, " + i + ") when pruned", GONE, x -> x.path(2, number));
+            DUE.refuses(States::inCalls, "path(2, " + i + ") when pruned", GONE, x -> x.path(2, number));
             DUE.refuses(States::fiveInOut, "path(2, " + i + "), OUT is full", GONE, x -> x.path(2, number));
         }
     }
@@ -112,7 +112,7 @@ public final class ProofsTest {
             DUE.refuses(States::fresh, "out(" + k + ") of none", INDEX, x -> x.out(k));
         }
         for (int k : new int[] {-1, 2, 3, 4, 5, MIN, MAX}) {
-            DUE.refuses(States::rich, "out(" + k + ") of two", INDEX, x -> x.out(k));
+            DUE.refuses(States::inCalls, "out(" + k + ") of two", INDEX, x -> x.out(k));
         }
         for (int k : new int[] {-1, 5, 6, MIN, MAX}) {
             DUE.refuses(States::fiveInOut, "out(" + k + ") of five", INDEX, x -> x.out(k));
@@ -302,18 +302,18 @@ public final class ProofsTest {
     private static void provedChangesNothing() {
         DUE.sentence("promise 20", "1, 0.");
         Due.State withPath = x -> {
-            States.rich(x);
+            States.inCalls(x);
             x.path(0, 2);
         };
         DUE.changesNothing(withPath, "proved, 1", x -> Sample.proved(x, 0, 2));
         DUE.changesNothing(withPath, "proved, 0", x -> Sample.proved(x, 0, 1));
-        DUE.changesNothing(States::rich, "proved, 0 when pruned", x -> Sample.proved(x, 2, 1));
+        DUE.changesNothing(States::inCalls, "proved, 0 when pruned", x -> Sample.proved(x, 2, 1));
     }
 
     private static void provedRefusesBlocks() {
         DUE.sentence("promise 20 with Terms, REFUSALS", "BAD (a number is not as told, there is no such thing)");
         for (int block : NO_BLOCKS) {
-            DUE.refuses(States::rich, "proved, block " + block, BAD, x -> x.proved(block, 0, 0, 0, -1, -1, -7));
+            DUE.refuses(States::inCalls, "proved, block " + block, BAD, x -> x.proved(block, 0, 0, 0, -1, -1, -7));
         }
         DUE.refuses(States::fresh, "proved, none is there", BAD, x -> x.proved(0, 0, 0, 0, -1, -1, -7));
     }
@@ -321,12 +321,12 @@ public final class ProofsTest {
     private static void provedRefusesPlaces() {
         DUE.sentence("promise 20", "BAD: also, the BLOCK has, or had, no place i.");
         for (int i : new int[] {-1, 3, 31, 32, MIN, MAX}) {
-            DUE.refuses(States::rich, "proved at " + i + " of 3", BAD, x -> x.proved(0, i, 0, 0, -1, -1, -7));
+            DUE.refuses(States::inCalls, "proved at " + i + " of 3", BAD, x -> x.proved(0, i, 0, 0, -1, -1, -7));
         }
         for (int i : new int[] {-1, 2, 32, MIN, MAX}) {
-            DUE.refuses(States::rich, "proved at " + i + " of 2, pruned", BAD, x -> x.proved(2, i, 0, 0, -1, -1, -7));
+            DUE.refuses(States::inCalls, "proved at " + i + " of 2, pruned", BAD, x -> x.proved(2, i, 0, 0, -1, -1, -7));
         }
-        DUE.refuses(States::rich, "proved at 0 of none", BAD, x -> x.proved(1, 0, 0, 0, -1, -1, -7));
+        DUE.refuses(States::inCalls, "proved at 0 of none", BAD, x -> x.proved(1, 0, 0, 0, -1, -1, -7));
         Rows y = new Rows();
         y.close();
         y.prune(0);
@@ -341,17 +341,17 @@ public final class ProofsTest {
         DUE.sentence("promise 20 with Terms, EVENTS",
                 "EVENTS have an ACCOUNT (0 .. 9), one to three TOPICS (0 .. 999), a VALUE (a long)");
         for (int account : new int[] {-1, 10, MIN, MAX}) {
-            DUE.refuses(States::rich, "proved, account " + account, BAD, x -> x.proved(0, 0, account, 0, -1, -1, -7));
+            DUE.refuses(States::inCalls, "proved, account " + account, BAD, x -> x.proved(0, 0, account, 0, -1, -1, -7));
         }
         for (int topic : new int[] {-2, 1000, MIN, MAX}) {
-            DUE.refuses(States::rich, "proved, a " + topic, BAD, x -> x.proved(0, 0, 0, topic, -1, -1, -7));
-            DUE.refuses(States::rich, "proved, b " + topic, BAD, x -> x.proved(0, 0, 0, 0, topic, -1, -7));
-            DUE.refuses(States::rich, "proved, c " + topic, BAD, x -> x.proved(0, 0, 0, 0, 1, topic, -7));
+            DUE.refuses(States::inCalls, "proved, a " + topic, BAD, x -> x.proved(0, 0, 0, topic, -1, -1, -7));
+            DUE.refuses(States::inCalls, "proved, b " + topic, BAD, x -> x.proved(0, 0, 0, 0, topic, -1, -7));
+            DUE.refuses(States::inCalls, "proved, c " + topic, BAD, x -> x.proved(0, 0, 0, 0, 1, topic, -7));
         }
         for (int c : new int[] {0, 999}) {
-            DUE.refuses(States::rich, "proved, b none, c " + c, BAD, x -> x.proved(0, 0, 0, 0, -1, c, -7));
+            DUE.refuses(States::inCalls, "proved, b none, c " + c, BAD, x -> x.proved(0, 0, 0, 0, -1, c, -7));
         }
-        DUE.refuses(States::rich, "proved, a none", BAD, x -> x.proved(0, 0, 0, -1, -1, -1, -7));
+        DUE.refuses(States::inCalls, "proved, a none", BAD, x -> x.proved(0, 0, 0, -1, -1, -1, -7));
         Rows y = Sample.ofBlock(1);
         for (int[] row : new int[][] {{0, 0, 0, 0}, {9, 999, 999, 999}, {9, 999, -1, -1}, {0, 0, 0, -1}}) {
             DUE.is("proved, at the edges", y.proved(0, 0, row[0], row[1], row[2], row[3], Long.MIN_VALUE), 0);

@@ -95,10 +95,10 @@ public final class RefusalsTest {
     private static void eventBadAheadOfGone() {
         DUE.sentence("promise 10 with Terms, REFUSALS", FIRST);
         for (int i : new int[] {-1, 2, 32, MIN, MAX}) {
-            DUE.refuses(States::rich, "event(2, " + i + ", 0), 2 were there", BAD, x -> x.event(2, i, 0));
+            DUE.refuses(States::inCalls, "event(2, " + i + ", 0), 2 were there", BAD, x -> x.event(2, i, 0));
         }
         for (int what : new int[] {-1, 6, MIN, MAX}) {
-            DUE.refuses(States::rich, "event(2, 0, " + what + ") when pruned", BAD, x -> x.event(2, 0, what));
+            DUE.refuses(States::inCalls, "event(2, 0, " + what + ") when pruned", BAD, x -> x.event(2, 0, what));
         }
         Rows y = new Rows();
         y.close();
@@ -109,17 +109,17 @@ public final class RefusalsTest {
     private static void findBadAheadOfGone() {
         DUE.sentence("promise 15 with Terms, REFUSALS", FIRST);
         for (int topic : new int[] {-1, 1000, -2, MIN, MAX}) {
-            DUE.refuses(States::rich, "find(2, " + topic + ", 0) when pruned", BAD, x -> x.find(2, topic, 0));
+            DUE.refuses(States::inCalls, "find(2, " + topic + ", 0) when pruned", BAD, x -> x.find(2, topic, 0));
         }
         for (int i : new int[] {-1, MIN}) {
-            DUE.refuses(States::rich, "find(2, 0, " + i + ") when pruned", BAD, x -> x.find(2, 0, i));
+            DUE.refuses(States::inCalls, "find(2, 0, " + i + ") when pruned", BAD, x -> x.find(2, 0, i));
         }
     }
 
     private static void pathBadAheadOfGone() {
         DUE.sentence("promise 16 with Terms, REFUSALS", FIRST);
         for (int i : new int[] {-1, 2, 32, MIN, MAX}) {
-            DUE.refuses(States::rich, "path(2, " + i + "), 2 were there", BAD, x -> x.path(2, i));
+            DUE.refuses(States::inCalls, "path(2, " + i + "), 2 were there", BAD, x -> x.path(2, i));
         }
         Rows y = new Rows();
         y.close();

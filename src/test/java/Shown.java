@@ -8,19 +8,18 @@ final class Shown {
     }
 
     /**
-     * The calls that only ask come first, those that change the object last. Calls that end well
-     * show the units and the events, calls that fail show which of them are caught: hence both ways.
+     * The calls that only ask come first, those that change the object last; none of them is refused,
+     * as that would hide what an earlier refusal did. Calls that end well show the units and the
+     * events, calls that fail show which of them are caught: hence both ways.
      */
     static String by(Rows x, boolean well) {
         Shown shown = new Shown(x);
         shown.counts();
-        shown.out();
         shown.blocks();
         shown.subscribers();
         shown.openCalls(well);
         shown.openBlock();
-        shown.add("lay", () -> x.lay(1));
-        shown.add("wipe", x::wipe);
+        shown.out();
         return shown.text.toString();
     }
 
@@ -35,19 +34,11 @@ final class Shown {
         }
     }
 
-    private void out() {
-        for (int k = 0; k <= 4; k++) {
-            int asked = k;
-            add("out(" + k + ")", () -> x.out(asked));
-        }
-    }
-
     private void blocks() {
         int many = x.told(5);
         for (int block = 0; block < many; block++) {
             block(block);
         }
-        add("size(" + many + ")", () -> x.size(many, 0));
     }
 
     private void block(int block) {
@@ -80,7 +71,6 @@ final class Shown {
                 text.append("next(").append(number).append(") ").append(found).append("; ");
             }
         }
-        add("place(" + many + ")", () -> x.place(many));
     }
 
     private void openCalls(boolean well) {
@@ -93,13 +83,23 @@ final class Shown {
 
     /** Where 40 blocks are there, one has to go before the open one can be closed and looked at. */
     private void openBlock() {
-        int number = x.close();
-        if (number == EventRows.FULL) {
+        if (x.told(5) == 40) {
             add("back(1)", () -> x.back(1));
-            number = x.close();
         }
+        int number = x.close();
         text.append("close ").append(number).append("; ");
         block(number);
         add("told(4)", () -> x.told(4));
+    }
+
+    /** Last of all, as only a call that throws tells where OUT ends. */
+    private void out() {
+        String got = "";
+        for (int k = 0; k <= 5 && !got.startsWith("java"); k++) {
+            int asked = k;
+            got = Due.answerOf(() -> x.out(asked));
+            text.append("out(").append(k).append(") ").append(got).append("; ");
+        }
+        add("wipe", x::wipe);
     }
 }

@@ -9,7 +9,7 @@ final class States {
 
     /**
      * Blocks 0 of three events, 1 of none, 2 pruned, 3 of one, and two events in the open block;
-     * subscribers 0 amid block 0, 1 at block 2, 2 at the block to come; two in OUT; no call.
+     * subscribers 0 amid block 0, 1 at the block to come, 2 at block 2; two in OUT; no call.
      */
     static void rich(Rows x) {
         Sample.closeMany(x, 3);
@@ -19,8 +19,8 @@ final class States {
         Sample.closeMany(x, 1);
         x.subscribe(-1, 0);
         x.next(0);
-        x.subscribe(0, 2);
         x.subscribe(-1, 4);
+        x.subscribe(0, 2);
         x.lay(11);
         x.lay(Long.MIN_VALUE);
         Sample.tellMany(x, 2);
@@ -83,18 +83,21 @@ final class States {
     private static void fillOpenBlock(Rows x) {
         Sample.closeMany(x, 1);
         x.subscribe(-1, 0);
+        x.lay(11);
         Sample.tellMany(x, 32);
     }
 
-    /** 40 blocks, the first two of events, and three events in the open one; no call. */
+    /** 40 blocks, the first and the last of events, and three events in the open one; no call. */
     static void fortyBlocks(Rows x) {
         Sample.closeMany(x, 2);
-        Sample.closeMany(x, 1);
-        for (int block = 2; block < 40; block++) {
+        for (int block = 1; block < 39; block++) {
             x.close();
         }
+        Sample.closeMany(x, 1);
         x.subscribe(-1, 0);
         x.subscribe(0, 40);
+        x.subscribe(0, 39);
+        x.lay(11);
         Sample.tellMany(x, 3);
     }
 
@@ -103,16 +106,16 @@ final class States {
         x.begin(10, true);
     }
 
-    /** Eight subscribers, at all blocks that are there and at the one to come. */
+    /** Eight subscribers, at the block to come and at all that are there, the last one at block 0. */
     static void eightSubscribers(Rows x) {
-        rich(x);
+        inCalls(x);
         for (int subscriber = 3; subscriber < 8; subscriber++) {
-            x.subscribe(subscriber - 4, subscriber - 3);
+            x.subscribe(subscriber - 4, 7 - subscriber);
         }
     }
 
     static void fiveInOut(Rows x) {
-        rich(x);
+        inCalls(x);
         for (int k = 2; k < 5; k++) {
             x.lay(100 + k);
         }

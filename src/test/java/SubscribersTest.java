@@ -55,7 +55,7 @@ public final class SubscribersTest {
     private static void subscribeRefusesOtherTopics() {
         DUE.sentence("promise 21", "A SUBSCRIBER to a TOPIC (-1: any)");
         for (int topic : new int[] {-2, 1000, MIN, MAX}) {
-            DUE.refuses(States::rich, "subscribe(" + topic + ", 0)", BAD, x -> x.subscribe(topic, 0));
+            DUE.refuses(States::inCalls, "subscribe(" + topic + ", 0)", BAD, x -> x.subscribe(topic, 0));
             DUE.refuses(States::fresh, "subscribe(" + topic + ", 0), no blocks", BAD, x -> x.subscribe(topic, 0));
         }
     }
@@ -63,7 +63,7 @@ public final class SubscribersTest {
     private static void subscribeTakesBlocks() {
         DUE.sentence("promise 21", "from the beginning of a BLOCK on");
         Rows x = new Rows();
-        States.rich(x);
+        States.inCalls(x);
         for (int block = 0; block <= 4; block++) {
             DUE.is("subscribe(-1, " + block + ")", x.subscribe(-1, block), 3 + block);
             DUE.is("place", x.place(3 + block), 100 * block);
@@ -97,14 +97,14 @@ public final class SubscribersTest {
         DUE.sentence("promise 21", "(of the one that will be closed next, too)");
         Rows x = new Rows();
         States.fortyBlocks(x);
-        DUE.is("subscribe(-1, 40)", x.subscribe(-1, 40), 2);
-        DUE.is("place(2)", x.place(2), 4000);
+        DUE.is("subscribe(-1, 40)", x.subscribe(-1, 40), 3);
+        DUE.is("place(3)", x.place(3), 4000);
         DUE.is("subscribe(-1, 41)", x.subscribe(-1, 41), BAD);
         x.back(1);
-        DUE.is("place(2), a block is taken back", x.place(2), 3900);
+        DUE.is("place(3), a block is taken back", x.place(3), 3900);
         DUE.is("subscribe(-1, 40), 39 blocks", x.subscribe(-1, 40), BAD);
         x.close();
-        DUE.is("next(2)", x.next(2), 3900);
+        DUE.is("next(3)", x.next(3), 3900);
     }
 
     private static void subscribeRefusesOtherBlocks() {
@@ -125,8 +125,11 @@ public final class SubscribersTest {
             DUE.refuses(States::eightSubscribers, "subscribe(" + topic + ", 4)", FULL, x -> x.subscribe(topic, 4));
         }
         Rows y = new Rows();
-        States.eightSubscribers(y);
-        y.back(4);
+        Sample.closeMany(y, 1);
+        for (int number = 0; number <= 7; number++) {
+            y.subscribe(-1, 0);
+        }
+        y.back(1);
         DUE.is("subscribe, they stay when blocks are taken back", y.subscribe(-1, 0), FULL);
     }
 
@@ -178,7 +181,7 @@ public final class SubscribersTest {
     private static void nextRefuses() {
         DUE.sentence("promise 22", "BAD.");
         for (int subscriber : new int[] {-1, 3, 7, 8, MIN, MAX}) {
-            DUE.refuses(States::rich, "next(" + subscriber + ") of 3", BAD, x -> x.next(subscriber));
+            DUE.refuses(States::inCalls, "next(" + subscriber + ") of 3", BAD, x -> x.next(subscriber));
         }
         for (int subscriber : new int[] {-1, 8, MIN, MAX}) {
             DUE.refuses(States::eightSubscribers, "next(" + subscriber + ") of 8", BAD, x -> x.next(subscriber));
@@ -220,7 +223,7 @@ public final class SubscribersTest {
     private static void placeRefuses() {
         DUE.sentence("promise 23", "BAD.");
         for (int subscriber : new int[] {-1, 3, 7, 8, MIN, MAX}) {
-            DUE.refuses(States::rich, "place(" + subscriber + ") of 3", BAD, x -> x.place(subscriber));
+            DUE.refuses(States::inCalls, "place(" + subscriber + ") of 3", BAD, x -> x.place(subscriber));
         }
         for (int subscriber : new int[] {-1, 8, MIN, MAX}) {
             DUE.refuses(States::eightSubscribers, "place(" + subscriber + ") of 8", BAD, x -> x.place(subscriber));
@@ -228,6 +231,6 @@ public final class SubscribersTest {
         DUE.refuses(States::fresh, "place(0) of none", BAD, x -> x.place(0));
         Rows y = new Rows();
         States.eightSubscribers(y);
-        DUE.is("place(7) of 8", y.place(7), 400);
+        DUE.is("place(7) of 8", y.place(7), 0);
     }
 }
