@@ -15,12 +15,29 @@ final class Due {
         void of(Rows x);
     }
 
+    /** Far above what any test class needs, also on a slow machine. */
+    private static final long MOST_MILLISECONDS = 300_000;
+
     private final String name;
-    private String sentence = "";
+    private volatile String sentence = "";
     private int wrong;
 
     Due(String name) {
         this.name = name;
+        Thread watch = new Thread(this::failWhenLate);
+        watch.setDaemon(true);
+        watch.start();
+    }
+
+    /** A call that does not end is a failure, not a test that is waited for. */
+    private void failWhenLate() {
+        try {
+            Thread.sleep(MOST_MILLISECONDS);
+        } catch (InterruptedException e) {
+            return;
+        }
+        System.out.println(name + sentence + ": a call does not end");
+        Runtime.getRuntime().halt(1);
     }
 
     /** From here on the answers are held against this sentence of the document. */
