@@ -1,11 +1,16 @@
+import java.io.IOException;
 import java.lang.reflect.Constructor;
 import java.lang.reflect.Field;
 import java.lang.reflect.Method;
 import java.lang.reflect.Modifier;
+import java.nio.file.Files;
+import java.nio.file.Path;
 import java.util.ArrayList;
 import java.util.Arrays;
 import java.util.Collections;
 import java.util.List;
+import java.util.regex.Matcher;
+import java.util.regex.Pattern;
 
 /** The public face: just the members that the document names (and rule 1 of LANGUAGE.md). */
 public final class FaceTest {
@@ -33,14 +38,25 @@ public final class FaceTest {
         "long root(int) throws ArrayIndexOutOfBoundsException",
         "long value(int,int) throws NullPointerException,ArrayIndexOutOfBoundsException",
     };
+    /** What the interface says ahead of calls, and these calls. */
+    private static final String[][] PARTS = {
+        {"calls", "begin", "tell", "end", "told"},
+        {"blocks", "close", "back", "prune", "size", "event", "value", "root", "filter", "may", "find"},
+        {"proofs", "path", "out", "lay", "wipe", "proved"},
+        {"subscribers", "subscribe", "next", "place"},
+    };
+    private static final Path SOURCE = Path.of("src", "main", "java", "EventRows.java");
+    private static final Pattern PART_OR_CALL =
+            Pattern.compile("    (?:// ---- (calls|blocks|proofs|subscribers)|public (?:int|long) (\\w+)\\(.*)");
     private static final String[] CONSTANTS = {"BAD", "FULL", "GONE", "NONE", "STATE"};
 
     private static final Due DUE = new Due("FaceTest");
 
-    public static void main(String[] args) {
+    public static void main(String[] args) throws IOException {
         theClass();
         theMethods();
         theConstants();
+        theParts();
         DUE.end();
     }
 
@@ -67,6 +83,26 @@ public final class FaceTest {
         }
         Collections.sort(seen);
         same("methods", seen, Arrays.asList(METHODS));
+    }
+
+    private static void theParts() throws IOException {
+        List<String> seen = new ArrayList<>();
+        for (String line : Files.readAllLines(SOURCE)) {
+            Matcher parts = PART_OR_CALL.matcher(line);
+            if (parts.matches()) {
+                seen.add(parts.group(1) == null ? parts.group(2) : parts.group(1));
+            }
+        }
+        int from = 0;
+        for (String[] part : PARTS) {
+            List<String> want = Arrays.asList(part);
+            DUE.sentence("Terms", "Ahead of the calls `" + String.join("`, `", want.subList(1, want.size()))
+                    + "` the interface says: ---- " + part[0] + ".");
+            int to = Math.min(from + part.length, seen.size());
+            same("the part and its calls", seen.subList(from, to), want);
+            from = to;
+        }
+        DUE.is("lines of parts and calls", seen.size(), from);
     }
 
     private static void theConstants() {

@@ -1,3 +1,5 @@
+import java.util.List;
+
 /**
  * The section 'Terms', REFUSALS: where two of them fit a call, the first is its answer; and none of
  * them changes anything. That of a single refusal stands with its promise.
@@ -8,7 +10,14 @@ public final class RefusalsTest {
     private static final String FIRST = "REFUSALS are answers, the first that fits";
     private static final Due DUE = new Due("RefusalsTest");
 
+    private static final List<Due.State> ALL_STATES = List.of(States::fresh, States::rich, States::inCalls,
+            States::withoutUnits, States::eightCalls, States::eightCallsWithoutUnits, States::fullOpenBlock,
+            States::fullOpenBlockWithoutUnits, States::fullOpenBlockWithoutCall, States::fortyBlocks,
+            States::fortyBlocksInCall, States::eightSubscribers, States::fiveInOut);
+
     public static void main(String[] args) {
+        refusalsAreAnswers();
+        refusalsOfEachKind();
         beginBadAheadOfFull();
         beginBadAheadOfUnits();
         beginFullAheadOfUnits();
@@ -24,6 +33,54 @@ public final class RefusalsTest {
         subscribeBadAheadOfFull();
         refusedOnceAndThenTaken();
         DUE.end();
+    }
+
+    /** Whatever the numbers and the state are, a call that answers an int throws nothing. */
+    private static void refusalsAreAnswers() {
+        DUE.sentence("Terms, REFUSALS", "REFUSALS are answers");
+        for (Due.State state : ALL_STATES) {
+            for (int n : new int[] {MIN, -21, -1, 0, 7, 31, 32, 39, 40, 41, 1000, 10001, MAX}) {
+                for (Due.Act act : actsWith(n)) {
+                    Rows x = new Rows();
+                    state.of(x);
+                    String got = Due.answerOf(() -> act.on(x));
+                    if (!got.matches("-?[0-9]+")) {
+                        DUE.report("a call with " + n + " threw " + got);
+                    }
+                }
+            }
+        }
+    }
+
+    private static List<Due.Act> actsWith(int n) {
+        return List.of(x -> x.begin(n, true), x -> x.tell(n, n, n, n, n), x -> x.tell(0, n, -1, -1, 0),
+                x -> x.end(n > 0), x -> x.told(n), Rows::close, x -> x.back(n), x -> x.prune(n), x -> x.size(n, 0),
+                x -> x.size(0, n), x -> x.event(n, 0, 0), x -> x.event(0, n, 0), x -> x.event(0, 0, n),
+                x -> x.event(n, n, n), x -> x.may(n, 0), x -> x.may(0, n), x -> x.find(n, n, n), x -> x.find(0, n, 0),
+                x -> x.find(0, 0, n), x -> x.path(n, 0), x -> x.path(0, n), x -> x.lay(n), Rows::wipe,
+                x -> x.proved(n, n, n, n, n, n, n), x -> x.proved(0, n, 0, 0, -1, -1, -7),
+                x -> x.proved(0, 0, 0, n, n, n, n), x -> x.subscribe(n, 0), x -> x.subscribe(0, n), x -> x.next(n),
+                x -> x.place(n));
+    }
+
+    /** The constants here: that they are the numbers of the document, FaceTest looks at. */
+    private static void refusalsOfEachKind() {
+        DUE.sentence("Terms, REFUSALS", "BAD (a number is not as told, there is no such thing)");
+        DUE.refuses(States::rich, "told(7), not as told", EventRows.BAD, x -> x.told(7));
+        DUE.refuses(States::rich, "size(4, 0), no such thing", EventRows.BAD, x -> x.size(4, 0));
+        DUE.sentence("Terms, REFUSALS", "STATE (not now, as told)");
+        DUE.refuses(States::inCalls, "close(), not now", EventRows.STATE, Rows::close);
+        DUE.refuses(States::rich, "end(true), not now", EventRows.STATE, x -> x.end(true));
+        DUE.sentence("Terms, REFUSALS", "FULL");
+        DUE.refuses(States::eightCalls, "begin(1, true)", EventRows.FULL, x -> x.begin(1, true));
+        DUE.refuses(States::fullOpenBlock, "tell", EventRows.FULL, x -> x.tell(0, 5, -1, -1, 1));
+        DUE.refuses(States::fortyBlocks, "close()", EventRows.FULL, Rows::close);
+        DUE.refuses(States::fiveInOut, "lay(1)", EventRows.FULL, x -> x.lay(1));
+        DUE.refuses(States::eightSubscribers, "subscribe(1, 0)", EventRows.FULL, x -> x.subscribe(1, 0));
+        DUE.sentence("Terms, REFUSALS", "GONE (EVENTS that are not KEPT)");
+        DUE.refuses(States::rich, "event(2, 0, 0)", EventRows.GONE, x -> x.event(2, 0, 0));
+        DUE.refuses(States::rich, "find(2, 0, 0)", EventRows.GONE, x -> x.find(2, 0, 0));
+        DUE.refuses(States::rich, "path(2, 0)", EventRows.GONE, x -> x.path(2, 0));
     }
 
     private static void beginBadAheadOfFull() {

@@ -26,7 +26,8 @@ public final class SubscribersTest {
     // ---- promise 21
 
     private static void subscribeTellsTheNumber() {
-        DUE.sentence("promise 21", "A SUBSCRIBER to a TOPIC (-1: any) from the beginning of a BLOCK on");
+        DUE.sentence("promise 21", "A SUBSCRIBER to a TOPIC (-1: any) from the beginning of a BLOCK on"
+                + " (of the one that will be closed next, too): its number.");
         Rows x = new Rows();
         for (int number = 0; number <= 7; number++) {
             DUE.is("subscribe", x.subscribe(3, 0), number);

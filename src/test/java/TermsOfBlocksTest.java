@@ -10,12 +10,14 @@ public final class TermsOfBlocksTest {
 
     public static void main(String[] args) {
         fortyAtOnce();
+        blocksAreWhatTheOpenBlockWas();
         thirtyTwoEventsInOrder();
         mixWraps();
         aLeafHasItsTopicsInOrder();
         aLeafHasEachOfItsTopics();
         aLeafHasItsPlace();
         rootOfNoEvents();
+        rootOfTheRowOfLeaves();
         rootsOfAllSizes();
         aLastOneByItselfStays();
         pathsOfAllSizes();
@@ -53,6 +55,38 @@ public final class TermsOfBlocksTest {
             DUE.is("close(), from none on again", x.close(), block);
         }
         DUE.is("close(), 40 once more", x.close(), FULL);
+    }
+
+    private static void blocksAreWhatTheOpenBlockWas() {
+        DUE.sentence("Terms, BLOCKS", "are what THE OPEN BLOCK was when it was closed");
+        Rows x = Sample.ofBlock(5);
+        showsSampleOfFive(x, "just closed");
+        x.begin(1000, false);
+        for (int i = 0; i < 7; i++) {
+            x.tell(9, 900 + i, 910, 920, -i);
+        }
+        showsSampleOfFive(x, "others are told");
+        x.end(false);
+        showsSampleOfFive(x, "others failed");
+        x.close();
+        Sample.closeMany(x, 32);
+        showsSampleOfFive(x, "others are closed");
+        x.prune(1);
+        x.back(2);
+        showsSampleOfFive(x, "others are taken back");
+    }
+
+    private static void showsSampleOfFive(Rows x, String when) {
+        DUE.is("size(0, 0), " + when, x.size(0, 0), 5);
+        DUE.is("size(0, 1), " + when, x.size(0, 1), 1);
+        DUE.is("root(0), " + when, x.root(0), Model.top(Sample.leaves(5)));
+        for (int i = 0; i < 5; i++) {
+            DUE.is("event(0, " + i + ", 0), " + when, x.event(0, i, 0), Sample.account(i));
+            DUE.is("event(0, " + i + ", 1), " + when, x.event(0, i, 1), 1 + i % 3);
+            DUE.is("event(0, " + i + ", 2), " + when, x.event(0, i, 2), Sample.a(i));
+            DUE.is("event(0, " + i + ", 5), " + when, x.event(0, i, 5), i);
+            DUE.is("value(0, " + i + "), " + when, x.value(0, i), Sample.value(i));
+        }
     }
 
     private static void thirtyTwoEventsInOrder() {
@@ -146,9 +180,26 @@ public final class TermsOfBlocksTest {
         DUE.is("root(3), all events failed", x.root(3), 0);
     }
 
+    private static void rootOfTheRowOfLeaves() {
+        DUE.sentence("Terms, BLOCKS", "else of the row of LEAVES");
+        Rows x = new Rows();
+        x.begin(1000, false);
+        x.tell(1, 10, -1, -1, 5);
+        x.tell(2, 20, 21, -1, -6);
+        x.tell(3, 30, 31, 32, Long.MAX_VALUE);
+        x.tell(4, 40, -1, -1, Long.MIN_VALUE);
+        x.end(true);
+        x.close();
+        long[] leaves = {mix(mix(mix(1, 5), 10), 0), mix(mix(mix(mix(2, -6), 20), 21), 1),
+            mix(mix(mix(mix(mix(3, Long.MAX_VALUE), 30), 31), 32), 2), mix(mix(mix(4, Long.MIN_VALUE), 40), 3)};
+        DUE.is("root(0)", x.root(0), mix(mix(leaves[0], leaves[1]), mix(leaves[2], leaves[3])));
+        DUE.sentence("Terms, BLOCKS", "the one that is left");
+        DUE.is("root(0) of a single leaf", ofOneEvent(1, 10, -1, -1, 5).root(0), leaves[0]);
+    }
+
     private static void rootsOfAllSizes() {
-        DUE.sentence("Terms, BLOCKS",
-                "as long as there are two or more, the row of MIX of the first and second, the third and fourth");
+        DUE.sentence("Terms, BLOCKS", "as long as there are two or more, the row of MIX of the first and second,"
+                + " the third and fourth, and so on");
         for (int many = 1; many <= 32; many++) {
             DUE.is("root(0) of " + many, Sample.ofBlock(many).root(0), Model.top(Sample.leaves(many)));
         }

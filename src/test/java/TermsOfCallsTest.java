@@ -4,9 +4,11 @@ public final class TermsOfCallsTest {
     private static final Due DUE = new Due("TermsOfCallsTest");
 
     public static void main(String[] args) {
+        callsBeginAndEndInTheOpenBlock();
         eightDeep();
         theLesserLimitOfBoth();
         theLimitOfTheOneWithinHolds();
+        itMayBeCaught();
         oneUnitToBeginWithinAnother();
         theUnitToBeginIsUsedFirst();
         noUnitToBeginTheFirst();
@@ -15,6 +17,7 @@ public final class TermsOfCallsTest {
         usedAroundWhenItIsEndedAsFailed();
         usedAroundWhenAnActUsesTooMuch();
         usedAroundWhenSeveralFail();
+        itEndsWell();
         itFailsWhenAnActUsesMoreThanIsLeft();
         theActIsNotDone();
         whatIsLeftStaysUnused();
@@ -36,6 +39,26 @@ public final class TermsOfCallsTest {
     /** An event with a single topic, of 7 units. */
     private static int tellSeven(Rows x) {
         return x.tell(1, 5, -1, -1, 50);
+    }
+
+    private static void callsBeginAndEndInTheOpenBlock() {
+        DUE.sentence("Terms, CALLS", "In THE OPEN BLOCK CALLS begin and end");
+        Rows x = new Rows();
+        for (int block = 0; block < 3; block++) {
+            DUE.is("told(3), an open block without calls", x.told(3), 0);
+            for (int call = 1; call <= 4; call++) {
+                DUE.is("begin, none is open", x.begin(10, false), 1);
+                DUE.is("tell, behind what earlier ones told", tellSeven(x), call);
+                DUE.is("end(true)", x.end(true), 7);
+            }
+            DUE.is("close()", x.close(), block);
+            DUE.is("size(" + block + ", 0)", x.size(block, 0), 4);
+        }
+        x.begin(10, false);
+        tellSeven(x);
+        for (int block = 0; block < 3; block++) {
+            DUE.is("size(" + block + ", 0), a call tells nothing there", x.size(block, 0), 4);
+        }
     }
 
     private static void eightDeep() {
@@ -80,6 +103,24 @@ public final class TermsOfCallsTest {
         x.begin(6, true);
         DUE.is("tell with a unit too few", tellSeven(x), -21);
         DUE.is("told(2) of the outer one", x.told(2), 1000 - 1 - 7 - 1);
+    }
+
+    /** All 256 ways in which eight calls within each other are caught or not. */
+    private static void itMayBeCaught() {
+        DUE.sentence("Terms, CALLS", "it may be CAUGHT");
+        for (int ways = 0; ways < 256; ways++) {
+            Rows x = new Rows();
+            int innermostCaught = 1;
+            for (int depth = 1; depth <= 8; depth++) {
+                boolean caught = (ways >> depth - 1 & 1) == 1;
+                x.begin(1000, caught);
+                tellSeven(x);
+                innermostCaught = caught ? depth : innermostCaught;
+            }
+            DUE.is("end(false), " + ways, x.end(false), -20 - (9 - innermostCaught));
+            DUE.is("told(0), those around it are open", x.told(0), innermostCaught - 1);
+            DUE.is("told(3), with their events", x.told(3), innermostCaught - 1);
+        }
     }
 
     private static void oneUnitToBeginWithinAnother() {
@@ -200,6 +241,25 @@ public final class TermsOfCallsTest {
         DUE.is("end(false), three fail", x.end(false), -23);
         DUE.is("told(1) of the first", x.told(1), 3 * (1 + 7));
         DUE.is("told(2) of the first", x.told(2), 76);
+    }
+
+    private static void itEndsWell() {
+        DUE.sentence("Terms, CALLS", "A CALL ends WELL");
+        for (boolean caught : new boolean[] {true, false}) {
+            Rows x = new Rows();
+            x.begin(100, caught);
+            tellSeven(x);
+            x.begin(50, caught);
+            tellSeven(x);
+            DUE.is("end(true) of the one within", x.end(true), 7);
+            DUE.is("told(0), the one around is open", x.told(0), 1);
+            DUE.is("told(3), both events are there", x.told(3), 2);
+            DUE.is("end(true) of the first", x.end(true), 15);
+            DUE.is("told(0)", x.told(0), 0);
+            DUE.is("told(3), both events are there", x.told(3), 2);
+            DUE.is("close()", x.close(), 0);
+            DUE.is("size(0, 0)", x.size(0, 0), 2);
+        }
     }
 
     private static void itFailsWhenAnActUsesMoreThanIsLeft() {

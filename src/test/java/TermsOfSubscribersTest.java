@@ -6,6 +6,7 @@ public final class TermsOfSubscribersTest {
     public static void main(String[] args) {
         eightOfThem();
         aTopicOrAny();
+        aPlaceIsABlockAndANumber();
         nextGoesOnFromThePlace();
         nextGoesThroughBlocksThatAreThere();
         nextPassesOverWhatIsNotKept();
@@ -53,6 +54,28 @@ public final class TermsOfSubscribersTest {
                 DUE.is("next for topic " + due[number][0], x.next(number), due[number][k]);
             }
         }
+    }
+
+    private static void aPlaceIsABlockAndANumber() {
+        DUE.sentence("Terms, SUBSCRIBERS", "a PLACE: a BLOCK and a number in it");
+        for (int block = 0; block < 3; block++) {
+            for (int number = 0; number <= 2; number++) {
+                Rows x = threeBlocks();
+                x.subscribe(1, block);
+                for (int times = 0; times < number; times++) {
+                    x.next(0);
+                }
+                DUE.is("place(0)", x.place(0), 100 * block + number);
+                DUE.is("next(0) is at its place, or at the next block", x.next(0), nextOfThree(block, number));
+            }
+        }
+    }
+
+    private static int nextOfThree(int block, int number) {
+        if (number < 2) {
+            return 100 * block + number;
+        }
+        return block < 2 ? 100 * (block + 1) : NONE;
     }
 
     private static void nextGoesOnFromThePlace() {
